@@ -1,0 +1,62 @@
+import java.lang.reflect.Constructor;
+import java.lang.reflect.Field;
+import java.lang.reflect.Method;
+import java.lang.reflect.Modifier;
+import java.util.ArrayList;
+import java.util.Collections;
+import java.util.List;
+
+/** The class shows the document's face and no more (LANGUAGE.md, rules 1 and 5). */
+public final class FaceTest {
+    private static final String[] METHODS = {
+        "boolean alternate(int, int)", "boolean bind(int, int, boolean)", "boolean header()",
+        "boolean passed(int)", "boolean remove(int, boolean)", "boolean type(long, int)",
+        "boolean unbind(int, int, boolean)", "int exchange(int)", "int found(int)", "int of(int, int)",
+        "int queue()", "int route(int)", "int total(int)", "void message()"};
+
+    public static void main(String[] args) {
+        Check check = new Check();
+        Class<?> face = RouteDesk.class;
+        check.due("public and final", face.getModifiers(), Modifier.PUBLIC | Modifier.FINAL);
+        check.due("the methods", shown(face), List.of(METHODS));
+        for (Constructor<?> one : face.getDeclaredConstructors()) {
+            check.due("the constructor", one.toString(), "public RouteDesk()");
+        }
+        for (Field field : face.getDeclaredFields()) {
+            if (!Modifier.isPrivate(field.getModifiers())) {
+                check.due("the field", field.toString(), "public static final int RouteDesk.NONE");
+            }
+        }
+        noStaticState(check, face);
+        for (Class<?> inside : face.getDeclaredClasses()) {
+            check.due(inside + " is static", Modifier.isStatic(inside.getModifiers()), true);
+            noStaticState(check, inside);
+        }
+        check.end();
+    }
+
+    private static List<String> shown(Class<?> face) {
+        List<String> shown = new ArrayList<>();
+        for (Method method : face.getDeclaredMethods()) {
+            if (Modifier.isPrivate(method.getModifiers())) {
+                continue;
+            }
+            StringBuilder text = new StringBuilder();
+            text.append(method.getReturnType()).append(' ').append(method.getName()).append('(');
+            for (Class<?> type : method.getParameterTypes()) {
+                text.append(text.charAt(text.length() - 1) == '(' ? "" : ", ").append(type);
+            }
+            shown.add(text.append(')').toString());
+        }
+        Collections.sort(shown);
+        return shown;
+    }
+
+    private static void noStaticState(Check check, Class<?> one) {
+        for (Field field : one.getDeclaredFields()) {
+            int modifiers = field.getModifiers();
+            check.due(field + " is no static state",
+                    !Modifier.isStatic(modifiers) || Modifier.isFinal(modifiers), true);
+        }
+    }
+}
