@@ -9,10 +9,20 @@ import java.util.List;
 /** The class shows the document's face and no more (LANGUAGE.md, rules 1 and 5). */
 public final class FaceTest {
     private static final String[] METHODS = {
-        "boolean alternate(int, int)", "boolean bind(int, int, boolean)", "boolean header()",
-        "boolean passed(int)", "boolean remove(int, boolean)", "boolean type(long, int)",
-        "boolean unbind(int, int, boolean)", "int exchange(int)", "int found(int)", "int of(int, int)",
-        "int queue()", "int route(int)", "int total(int)", "void message()"};
+        "boolean alternate(int, int)",
+        "boolean bind(int, int, boolean) throws IllegalArgumentException, IllegalStateException",
+        "boolean header()",
+        "boolean passed(int)",
+        "boolean remove(int, boolean)",
+        "boolean type(long, int)",
+        "boolean unbind(int, int, boolean)",
+        "int exchange(int) throws IllegalArgumentException, IllegalStateException",
+        "int found(int) throws NoSuchElementException",
+        "int of(int, int)",
+        "int queue() throws IllegalStateException",
+        "int route(int) throws IllegalArgumentException",
+        "int total(int)",
+        "void message()"};
 
     public static void main(String[] args) {
         Check check = new Check();
@@ -41,15 +51,19 @@ public final class FaceTest {
             if (Modifier.isPrivate(method.getModifiers())) {
                 continue;
             }
-            StringBuilder text = new StringBuilder();
-            text.append(method.getReturnType()).append(' ').append(method.getName()).append('(');
-            for (Class<?> type : method.getParameterTypes()) {
-                text.append(text.charAt(text.length() - 1) == '(' ? "" : ", ").append(type);
-            }
-            shown.add(text.append(')').toString());
+            shown.add(method.getReturnType() + " " + method.getName() + "(" + names(method.getParameterTypes()) + ")"
+                    + (method.getExceptionTypes().length == 0 ? "" : " throws " + names(method.getExceptionTypes())));
         }
         Collections.sort(shown);
         return shown;
+    }
+
+    private static String names(Class<?>[] types) {
+        List<String> names = new ArrayList<>();
+        for (Class<?> type : types) {
+            names.add(type.getSimpleName());
+        }
+        return String.join(", ", names);
     }
 
     private static void noStaticState(Check check, Class<?> one) {

@@ -41,6 +41,18 @@ final class Model {
         return all;
     }
 
+    boolean type(long word, int n) {
+        String bytes = "";
+        for (int i = 0; i < Math.min(n, 9); i++) {
+            bytes = (char) (word >> 8 * i & 255) + bytes;
+        }
+        if (!bytes.matches("[ -~]{1,8}") || n > 8 || tape.length() + n > 48) {
+            return false;
+        }
+        tape += bytes;
+        return true;
+    }
+
     private String takeTape() {
         String text = tape;
         tape = "";

@@ -2,82 +2,46 @@ public final class Promise07BindTest {
     private static final Class<?> ARGUMENT = IllegalArgumentException.class;
     private static final Class<?> STATE = IllegalStateException.class;
 
-    private static final String[] GOOD_PATTERNS = {
-        "", "a", "*", "#", "a.b", "*.*", "#.#", "a..b", ".", "...", ".*", "#.", "*.#.a", "A b!.?", "a=b,c.#"};
-    private static final String[] BAD_PATTERNS = {
-        "x*", "*x", "**", "##", "#*", "a#", "#a", "a.b*", "*.##.a", "a.x#x.b", "* ", "a.*b.c", "#.a.# "};
-    private static final String[] GOOD_RULES = {
-        "all", "any", "all,a", "any,a=", "all,abcdef=abc123", "any,a,b,c,d", "all,a=1,b=2,c=,d",
-        "all,a,a", "any,x=000000", "all,any", "any,all=all"};
-    private static final String[] BAD_RULES = {
-        "", "al", "ALL", "alla", "all ", " all", "all,", "any,,", "all,a,", "all,,a", "all,abcdefg", "all,A",
-        "all,a1", "all,a=A", "all,a=1234567", "all,a==", "all,a=b=c", "all,=", "all,=1", "any,a, b", "all,a =1",
-        "any,a,b,c,d,e", "all;a", "anya", "any=a", "allany", "none", "all,a=1-", "all.a", "all,a.b"};
-
     public static void main(String[] args) {
         Check check = new Check();
-        textsOfSorts(check);
-        places(check);
-        sameOnce(check);
-        tapeIsEmptyInAnyCase(check);
-        most(check);
+        check.sentence("A BINDING from an EXCHANGE to a QUEUE or EXCHANGE", Promise07BindTest::places);
+        check.sentence("with the TAPE as its text", Promise07BindTest::text);
+        check.sentence("(it is empty then in any case)", Promise07BindTest::tapeIsEmpty);
+        check.sentence("false if it is there", Promise07BindTest::isThere);
+        check.sentence("IllegalArgumentException: there is no such EXCHANGE", Promise07BindTest::noFrom);
+        check.sentence("no such EXCHANGE or QUEUE", Promise07BindTest::noTo);
+        check.sentence("or the text is none for that SORT", Promise07BindTest::badText);
+        check.sentence("IllegalStateException, with good ones: there are 120", Promise07BindTest::full);
         check.end();
     }
 
-    private static void texts(Check check, int sort, String[] good, String[] bad) {
-        RouteDesk desk = Check.desk(1, sort, 1);
-        for (String text : good) {
-            check.due("sort " + sort + ", text '" + text + "'", Check.bindQueue(desk, 0, text, 0), true);
-        }
-        for (String text : bad) {
-            check.dueThrow("sort " + sort + ", text '" + text + "'", ARGUMENT,
-                    () -> Check.bindQueue(desk, 0, text, 0));
-        }
-        check.due("sort " + sort + ", bindings", desk.total(2), good.length);
-    }
-
-    private static void textsOfSorts(Check check) {
-        texts(check, 0, new String[] {"", "a", "**", "a##b", "all,,", " ", "~", ".."}, new String[] {});
-        texts(check, 1, new String[] {""}, new String[] {"x", " ", "#", "all", "."});
-        texts(check, 2, GOOD_PATTERNS, BAD_PATTERNS);
-        texts(check, 3, GOOD_RULES, BAD_RULES);
-    }
-
     private static void places(Check check) {
-        RouteDesk desk = Check.desk(2, 1, 3);
-        int[] none = {2, 15, 16, -1, Integer.MIN_VALUE, Integer.MAX_VALUE};
-        for (int number : none) {
-            check.dueThrow("from " + number, ARGUMENT, () -> desk.bind(number, 0, true));
-            check.dueThrow("to exchange " + number, ARGUMENT, () -> desk.bind(0, number, false));
+        RouteDesk desk = Check.desk(16, 1, 16);
+        for (int number : new int[] {0, 8, 15}) {
+            check.due("bind(15, " + number + ", true)", desk.bind(15, number, true), true);
+            check.due("bind(15, " + number + ", false)", desk.bind(15, number, false), true);
+            check.due("bind(" + number + ", 3, true)", desk.bind(number, 3, true), true);
         }
-        check.dueThrow("to queue 3", ARGUMENT, () -> desk.bind(0, 3, true));
-        check.dueThrow("to queue 16", ARGUMENT, () -> desk.bind(0, 16, true));
-        check.dueThrow("to queue -1", ARGUMENT, () -> desk.bind(0, -1, true));
-        check.due("no bindings", desk.total(2), 0);
-        check.due("to queue 2", desk.bind(0, 2, true), true);
-        check.due("to exchange 1", desk.bind(0, 1, false), true);
-        check.due("to queue 1", desk.bind(0, 1, true), true);
-        check.due("to itself", desk.bind(0, 0, false), true);
-        check.due("bindings", desk.total(2), 4);
+        check.due("bindings", desk.total(2), 9);
+        check.due("from 15", desk.of(15, 0), 7);
+        check.due("to queue 0", desk.of(0, 2), 1);
+        check.due("to exchange 15, by itself", desk.of(15, 1), 1);
     }
 
-    private static void sameOnce(Check check) {
-        RouteDesk desk = Check.desk(2, 0, 2);
-        check.due("a binding", Check.bindQueue(desk, 0, "a", 1), true);
-        check.due("the same", Check.bindQueue(desk, 0, "a", 1), false);
-        check.due("another text", Check.bindQueue(desk, 0, "b", 1), true);
-        check.due("a longer text", Check.bindQueue(desk, 0, "aa", 1), true);
-        check.due("another from", Check.bindQueue(desk, 1, "a", 1), true);
-        check.due("another queue", Check.bindQueue(desk, 0, "a", 0), true);
-        check.due("an exchange", Check.bindExchange(desk, 0, "a", 1), true);
-        check.due("bindings", desk.total(2), 6);
-        RouteDesk rules = Check.desk(1, 3, 1);
-        check.due("a rule", Check.bindQueue(rules, 0, "all,a,b", 0), true);
-        check.due("the text as it is", Check.bindQueue(rules, 0, "all,b,a", 0), true);
-        check.due("the rule again", Check.bindQueue(rules, 0, "all,a,b", 0), false);
+    private static void text(Check check) {
+        RouteDesk desk = Check.desk(1, 0, 3);
+        check.due("an empty tape", Check.bindQueue(desk, 0, "", 0), true);
+        check.due("a full tape", Check.bindQueue(desk, 0, Check.FULL_TAPE, 1), true);
+        check.due("a short one", Check.bindQueue(desk, 0, "a", 2), true);
+        String[][] cases = {{"", " 0"}, {Check.FULL_TAPE, " 1"}, {"a", " 2"}, {"b", ""}};
+        for (String[] one : cases) {
+            Check.message(desk, one[0]);
+            desk.route(0);
+            check.due("found with '" + one[0] + "'", Check.found(desk), one[1]);
+        }
     }
 
-    private static void tapeIsEmptyInAnyCase(Check check) {
+    private static void tapeIsEmpty(Check check) {
         RouteDesk desk = Check.desk(1, 2, 1);
         Check.bindQueue(desk, 0, "good", 0);
         check.due("tape after true", Check.tapeLength(desk), 0);
@@ -85,32 +49,115 @@ public final class Promise07BindTest {
         check.due("tape after false", Check.tapeLength(desk), 0);
         check.dueThrow("a bad text", ARGUMENT, () -> Check.bindQueue(desk, 0, "bad*", 0));
         check.due("tape after a bad text", Check.tapeLength(desk), 0);
-        check.dueThrow("no exchange", ARGUMENT, () -> Check.bindQueue(desk, 7, "good", 0));
-        check.due("tape after no exchange", Check.tapeLength(desk), 0);
-        check.dueThrow("no queue", ARGUMENT, () -> Check.bindQueue(desk, 0, "good", 7));
-        check.due("tape after no queue", Check.tapeLength(desk), 0);
+        for (int number : Check.NO_NUMBERS) {
+            check.dueThrow("no first", ARGUMENT, () -> Check.bindQueue(desk, number, "good", 0));
+            check.due("tape after no first", Check.tapeLength(desk), 0);
+            check.dueThrow("no queue", ARGUMENT, () -> Check.bindQueue(desk, 0, "good", number));
+            check.due("tape after no queue", Check.tapeLength(desk), 0);
+            check.dueThrow("no exchange", ARGUMENT, () -> Check.bindExchange(desk, 0, "good", number));
+            check.due("tape after no exchange", Check.tapeLength(desk), 0);
+        }
+        RouteDesk full = fullWithDirect();
+        check.dueThrow("the 121st", STATE, () -> Check.bindQueue(full, 15, Check.FULL_TAPE, 0));
+        check.due("tape after the 121st", Check.tapeLength(full), 0);
+        check.dueThrow("a bad text with 120", ARGUMENT, () -> Check.bindQueue(full, 0, "x", 0));
+        check.due("tape after a bad text with 120", Check.tapeLength(full), 0);
     }
 
-    private static void most(Check check) {
+    /** 120 bindings; exchange 15 is a direct one, to which and from which none leads. */
+    private static RouteDesk fullWithDirect() {
+        RouteDesk desk = Check.deskWithBindings(0);
+        desk.remove(15, false);
+        desk.exchange(0);
+        for (int i = 0; i < 120; i++) {
+            desk.bind(i / 15, i % 15, true);
+        }
+        if (desk.total(2) != 120) {
+            throw new AssertionError("120 were due");
+        }
+        return desk;
+    }
+
+    private static void isThere(Check check) {
+        RouteDesk desk = Check.busyDesk();
+        check.due("to a queue", Check.bindQueue(desk, 0, "k.l", 1), false);
+        check.due("to an exchange", Check.bindExchange(desk, 2, "k.*", 3), false);
+        check.due("with an empty text", desk.bind(1, 0, true), false);
+        check.changesNothing("bind of one that is there", Check::busyDesk,
+                busy -> Check.bindQueue(busy, 3, "all,a=1", 0));
+        RouteDesk gone = Check.desk(1, 1, 1);
+        gone.bind(0, 0, true);
+        gone.unbind(0, 0, true);
+        check.due("it is there no more", gone.bind(0, 0, true), true);
+        RouteDesk full = Check.deskWithBindings(120);
+        check.due("the first of 120", full.bind(0, 0, true), false);
+        check.due("the last of 120", full.bind(3, 7, false), false);
+        check.due("bindings", full.total(2), 120);
+    }
+
+    private static void noFrom(Check check) {
+        for (int number : new int[] {4, 6, 15}) {
+            refused(check, number, "", 0, true);
+            refused(check, number, "", 0, false);
+        }
+        for (int number : Check.NO_NUMBERS) {
+            refused(check, number, "k.l", 0, true);
+            refused(check, number, "k.l", 0, false);
+        }
+        RouteDesk queues = Check.desk(1, 1, 3);
+        check.dueThrow("from a queue's number", ARGUMENT, () -> queues.bind(2, 0, true));
+    }
+
+    private static void noTo(Check check) {
+        // In the busy desk, exchange 4 and queue 2 have been removed.
+        for (int number : new int[] {2, 4, 5, 15}) {
+            refused(check, 0, "k.l", number, true);
+        }
+        for (int number : new int[] {4, 6, 15}) {
+            refused(check, 0, "k.l", number, false);
+        }
+        for (int number : Check.NO_NUMBERS) {
+            refused(check, 0, "k.l", number, true);
+            refused(check, 0, "k.l", number, false);
+        }
+    }
+
+    /** The texts themselves: TermsBindingsTest. */
+    private static void badText(Check check) {
+        String[][] bad = {{}, {"x", " ", "#"}, {"x*", "##", "a.#b"}, {"", "al", "all,", "any,a,b,c,d,e", "all,A"}};
+        for (int sort = 0; sort < bad.length; sort++) {
+            for (String text : bad[sort]) {
+                refused(check, sort, text, 0, true);
+                refused(check, sort, text, 0, false);
+            }
+        }
+    }
+
+    private static void refused(Check check, int from, String text, int to, boolean toQueue) {
+        String call = "bind(" + from + ", " + to + ", " + toQueue + ") with '" + text + "'";
+        RouteDesk one = Check.busyDesk();
+        Check.type(one, text);
+        check.dueThrow(call, ARGUMENT, () -> one.bind(from, to, toQueue));
+        check.changesNothing(call, Check::busyDesk, desk -> {
+            Check.type(desk, text);
+            desk.bind(from, to, toQueue);
+        });
+    }
+
+    private static void full(Check check) {
         RouteDesk desk = Check.deskWithBindings(119);
         check.due("the 120th", desk.bind(9, 0, true), true);
         check.dueThrow("the 121st", STATE, () -> desk.bind(9, 1, true));
         check.dueThrow("the 121st, to an exchange", STATE, () -> desk.bind(9, 1, false));
-        check.dueThrow("a bad text comes first", ARGUMENT, () -> Check.bindQueue(desk, 9, "x", 1));
-        check.dueThrow("no exchange comes first", ARGUMENT, () -> desk.bind(16, 1, true));
-        check.due("one that is there", desk.bind(9, 0, true), false);
-        check.due("there are 120", desk.total(2), 120);
+        check.dueThrow("with a bad text", ARGUMENT, () -> Check.bindQueue(desk, 9, "x", 1));
+        check.dueThrow("from no exchange", ARGUMENT, () -> desk.bind(16, 1, true));
+        check.dueThrow("to no exchange", ARGUMENT, () -> desk.bind(9, 16, false));
+        check.dueThrow("to no queue", ARGUMENT, () -> desk.bind(9, -1, true));
+        check.due("bindings", desk.total(2), 120);
         check.due("one goes", desk.unbind(9, 0, true), true);
         check.due("another comes", desk.bind(9, 1, true), true);
-        desk.remove(15, false);
-        desk.exchange(0);
-        desk.bind(9, 14, false);
-        desk.bind(9, 13, false);
-        desk.bind(9, 12, false);
-        check.dueThrow("the tape with 120", STATE, () -> {
-            Check.type(desk, "text");
-            desk.bind(15, 0, true);
-        });
-        check.due("is empty then", Check.tapeLength(desk), 0);
+        check.dueThrow("the 121st again", STATE, () -> desk.bind(9, 0, true));
+        check.changesNothing("the 121st", Promise07BindTest::fullWithDirect,
+                full -> Check.bindQueue(full, 15, "text", 15));
     }
 }

@@ -2,7 +2,7 @@ import java.util.ArrayList;
 import java.util.List;
 import java.util.Random;
 
-/** Long runs of random calls (the seeds are fixed), each answer compared with that of a plain model. */
+/** Runs of 512 random calls (the seeds are fixed), each answer compared with that of a plain model. */
 public final class RandomRunsTest {
     private static final int RUNS = 3000;
     private static final int CALLS = 512;
@@ -23,21 +23,41 @@ public final class RandomRunsTest {
     private static void run(Check check, Random random, int seed) {
         RouteDesk desk = new RouteDesk();
         Model model = new Model();
-        List<String> calls = new ArrayList<>();
-        // Some runs grow large, others lose again what they make.
+        List<Call> made = new ArrayList<>();
+        // Some runs begin almost full, some grow large, others lose again what they make.
+        List<Call> first = seed % 4 == 0 ? almostFull(random) : List.of();
         int removals = random.nextInt(4);
-        int sorts = random.nextInt(6);
-        for (int i = 0; i < CALLS; i++) {
-            Call call = Call.random(random, removals, sorts);
-            calls.add(call.toString());
+        int sorts = first.isEmpty() ? random.nextInt(6) : 1;
+        int used = 0;
+        while (true) {
+            Call call = made.size() < first.size() ? first.get(made.size()) : Call.random(random, removals, sorts);
+            used += call.cost();
+            if (used > CALLS) {
+                return;
+            }
+            made.add(call);
             Object got = answer(() -> call.on(desk));
             Object want = answer(() -> call.on(model));
-            check.due("seed " + seed + ", call " + i + ": " + call, got, want);
+            check.due("seed " + seed + ", step " + made.size() + ": " + call, got, want);
             if (!want.equals(got)) {
-                System.out.println(calls);
+                System.out.println(made);
                 return;
             }
         }
+    }
+
+    /** Fanouts, 15 or 16 of them, as many queues, and some 115 bindings. */
+    private static List<Call> almostFull(Random random) {
+        List<Call> calls = new ArrayList<>();
+        int many = 15 + random.nextInt(2);
+        for (int i = 0; i < many; i++) {
+            calls.add(new Call(2, 1, 0, false, ""));
+            calls.add(new Call(3, 0, 0, false, ""));
+        }
+        for (int i = 112 + random.nextInt(8); i > 0; i--) {
+            calls.add(new Call(6, i % many, i / many, random.nextBoolean(), ""));
+        }
+        return calls;
     }
 
     private interface Question {
@@ -64,6 +84,9 @@ public final class RandomRunsTest {
                 // Many runs keep to one sort, as only then do many bindings come to be.
                 one = random.nextInt(20) == 0 ? random.nextInt(8) - 2 : sorts < 4 ? sorts : random.nextInt(4);
             }
+            if (sorts == 1 && kind >= 6 && kind <= 10 && random.nextBoolean()) {
+                text = "";
+            }
             return new Call(kind, one, number(random), random.nextBoolean(), text);
         }
 
@@ -81,10 +104,46 @@ public final class RandomRunsTest {
                 case 0:
                     return random.nextInt(20) - 2;
                 case 1:
+                case 2:
                     return random.nextInt(16);
+                case 3:
+                    return random.nextInt(8) == 0 ? Check.NO_NUMBERS[random.nextInt(Check.NO_NUMBERS.length)] : 1;
                 default:
                     return random.nextInt(5);
             }
+        }
+
+        /** How many of the object's 512 calls it takes at most. */
+        int cost() {
+            int typed = (text.length() + 7) / 8;
+            switch (kind) {
+                case 0:
+                    return typed;
+                case 6:
+                case 7:
+                case 8:
+                case 9:
+                case 10:
+                case 11:
+                case 12:
+                case 13:
+                case 14:
+                    return typed + 1;
+                case 18:
+                    return 33;
+                default:
+                    return 1;
+            }
+        }
+
+        /** Mostly letters, now and then a byte that the tape does not take. */
+        private long word() {
+            Random bytes = new Random(text.hashCode() * 31L + one * 17L + two);
+            long word = 0;
+            for (int i = 0; i < 8; i++) {
+                word = word << 8 | (bytes.nextInt(30) == 0 ? bytes.nextInt(256) : 'a' + bytes.nextInt(3));
+            }
+            return word;
         }
 
         private boolean typed(Model model) {
@@ -103,8 +162,9 @@ public final class RandomRunsTest {
         Object on(RouteDesk desk) {
             switch (kind) {
                 case 0:
-                case 1:
                     return typed(desk);
+                case 1:
+                    return desk.type(word(), two);
                 case 2:
                 case 3:
                     return kind == 2 ? desk.exchange(one) : desk.queue();
@@ -151,8 +211,9 @@ public final class RandomRunsTest {
         Object on(Model model) {
             switch (kind) {
                 case 0:
-                case 1:
                     return typed(model);
+                case 1:
+                    return model.type(word(), two);
                 case 2:
                 case 3:
                     return kind == 2 ? model.exchange(one) : model.queue();
