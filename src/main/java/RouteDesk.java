@@ -140,11 +140,12 @@ public final class RouteDesk {
     /** Promise 10. */
     public boolean header() {
         String text = takeTape();
-        if (!HeaderText.isPair(text, 0, text.length(), true)) {
+        int nameEnd = Texts.find(text, HeaderText.SETS, 0, text.length());
+        // A binding may tell a name alone; a header has a value too, though perhaps an empty one.
+        if (nameEnd >= text.length() || !HeaderText.isNameOrPair(text, 0, text.length())) {
             return false;
         }
-        int equalsSign = Texts.find(text, HeaderText.SETS, 0, text.length());
-        return current.put(text.substring(0, equalsSign), text.substring(equalsSign + 1, text.length()));
+        return current.put(text.substring(0, nameEnd), text.substring(nameEnd + 1, text.length()));
     }
 
     /** Promise 11. */
@@ -584,12 +585,9 @@ public final class RouteDesk {
         /** Behind all or any, if names follow. */
         private static final int FIRST_COMMA = 3;
 
-        static boolean isPair(String text, int from, int to, boolean valueNeeded) {
+        static boolean isNameOrPair(String text, int from, int to) {
             int nameEnd = Texts.find(text, SETS, from, to);
-            if (!isName(text, from, nameEnd)) {
-                return false;
-            }
-            return nameEnd < to ? isValue(text, nameEnd + 1, to) : !valueNeeded;
+            return isName(text, from, nameEnd) && (nameEnd == to || isValue(text, nameEnd + 1, to));
         }
 
         static boolean isRule(String text) {
@@ -604,7 +602,7 @@ public final class RouteDesk {
             for (int i = from; i <= text.length(); i++) {
                 if (Texts.isPartEnd(text, i, COMMA)) {
                     names++;
-                    if (names > MOST_NAMES || !isPair(text, from, i, false)) {
+                    if (names > MOST_NAMES || !isNameOrPair(text, from, i)) {
                         return false;
                     }
                     from = i + 1;

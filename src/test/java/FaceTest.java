@@ -38,8 +38,10 @@ public final class FaceTest {
             }
         }
         noStaticState(check, face);
+        noSecondUseOfName(check, face);
         for (Class<?> inside : face.getDeclaredClasses()) {
             check.due(inside + " is static", Modifier.isStatic(inside.getModifiers()), true);
+            check.due(inside + " is not for all", inside.getModifiers() & (Modifier.PUBLIC | Modifier.PROTECTED), 0);
             noStaticState(check, inside);
         }
         check.end();
@@ -64,6 +66,14 @@ public final class FaceTest {
             names.add(type.getSimpleName());
         }
         return String.join(", ", names);
+    }
+
+    private static void noSecondUseOfName(Check check, Class<?> face) {
+        List<String> used = new ArrayList<>();
+        for (Method method : face.getDeclaredMethods()) {
+            check.due(method + " shares no name", used.contains(method.getName()), false);
+            used.add(method.getName());
+        }
     }
 
     private static void noStaticState(Check check, Class<?> one) {
